@@ -330,7 +330,7 @@ public final class RandomRunsTest {
   }
 
   public static void main(String[] args) {
-    int runs = args.length > 0 ? Integer.parseInt(args[0]) : 250;
+    int runs = args.length > 0 ? Integer.parseInt(args[0]) : 150;
     long seed = args.length > 1 ? Long.parseLong(args[1]) : 1;
     RandomRunsTest test = new RandomRunsTest(seed);
     for (int i = 0; i < runs && Check.wrong() == 0; i++) {
