@@ -1832,7 +1832,7 @@ public final class Forkhouse {
   /** Ways of a machine; a set of its states is held by the bits of an int. */
   private static final class Machine {
     private static final int STATES = 32;
-    /** The states with each number of steps to the goal. */
+    /** The states from which each number of steps can lead to the goal. */
     private final int[] layers = new int[STATES];
 
     int next(Bits step, int states) {
@@ -1865,15 +1865,13 @@ public final class Forkhouse {
 
     /** How many steps lead from some states to others, or -1; notes the layers up to there. */
     int distance(Bits step, int from, int to) {
-      int seen = 0;
       int layer = to;
       for (int length = 0; length < STATES; length++) {
         layers[length] = layer;
         if ((layer & from) != 0) {
           return length;
         }
-        seen |= layer;
-        layer = before(step, layer) & ~seen;
+        layer = before(step, layer);
       }
       return -1;
     }

@@ -175,6 +175,14 @@ public final class ModelsTest {
     }
     chance("a tenth, four times", house, 0, "1/10000");
     chance("the contrary of none", house, 1, "1/1");
+    for (int variable = 0; variable < 10; variable++) {
+      house.weigh(variable, variable < 3 ? 1 : 7, variable < 3 ? 100 : 7);
+    }
+    chance("a million", house, 0, "1/1000000");
+    for (int variable = 0; variable < 10; variable++) {
+      house.weigh(variable, 1, 4);
+    }
+    chance("a fourth, ten times", house, 0, "1/1048576");
   }
 
   /** Promise 26. */
@@ -254,18 +262,27 @@ public final class ModelsTest {
     Check.same("sift", house.sift(), 6);
     Check.same("nodes then", house.nodes(0), 6);
     Check.same("it stays what it was", house.models(0), 592);
-    Forkhouse like = Houses.with("g&(h|i&c)", "b&c|!b&a", "i^a");
+    Check.same("sift is not kept", house.undo(), 0);
+    siftLike("g&(h|i&c)", "b&c|!b&a", "i^a");
+    siftLike("a&d|b&e|c&f");
+    siftLike("j&f|b&i|c&h", "c&d&!e|h&g");
+    siftLike("a&f|b&h", "!a&h|b&f|d&(i^c)");
+    siftLike("a&j|(b^i)&(c|h)");
+    siftLike("b&h|c&i|d&j");
+  }
+
+  /** Sifts twice, and looks at the order each time. */
+  private static void siftLike(String... formulas) {
+    Forkhouse house = Houses.with(formulas);
     PlainHouse plain = new PlainHouse();
-    readPlain(plain, 0, "g&(h|i&c)");
-    readPlain(plain, 1, "b&c|!b&a");
-    readPlain(plain, 2, "i^a");
-    Check.same("sift of three", like.sift(), plain.sift());
-    for (int variable = 0; variable < 10; variable++) {
-      Check.same("sift of three, the place of " + variable, like.placeOf(variable),
-          plain.placeOf(variable));
+    for (int slot = 0; slot < formulas.length; slot++) {
+      readPlain(plain, slot, formulas[slot]);
     }
-    Check.same("sift is not kept", like.undo(), 2);
-    Check.same("sift once more", like.sift() <= 8, true);
+    for (int times = 1; times <= 2; times++) {
+      String what = "sift " + times + " of " + String.join(" and ", formulas);
+      Check.same(what, house.sift(), plain.sift());
+      Check.same(what + ", the order", Houses.order(house), plain.order);
+    }
   }
 
   private static void readPlain(PlainHouse plain, int slot, String formula) {
