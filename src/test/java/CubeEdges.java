@@ -97,7 +97,8 @@ final class CubeEdges {
     edges.test("Returns how many.",
         "cover 0 = 0", "table 0 -1", "cover 0 = 1", "formula 0 a^b^c^d^e^f", "cover 0 = 32",
         NINETY, "cover 0");
-    edges.test("Throws IndexOutOfBoundsException if there is no such slot", Edges.noSlot("cover @"));
+    edges.test("Throws IndexOutOfBoundsException if there is no such slot",
+        Edges.noSlot("cover @"));
     edges.test("Throws UnsupportedOperationException if it hangs on more than 6 variables",
         tooWide("cover @"), "formula 0 e|f|g|h|i|j", "cover 0 = 6", "formula 0 a&b&c&d&e&j",
         "cover 0 = 1");
@@ -143,7 +144,10 @@ final class CubeEdges {
     edges.test("Returns how many.",
         "leastCover 0 = 0", "table 0 -1", "leastCover 0 = 1", "formula 0 " + FOUR, "primes 0 = 12",
         "leastCover 0 = 4", "formula 0 " + TWO_RINGS, "primes 0 = 12", "leastCover 0 = 6",
-        "cover 0 = 8", "formula 0 a^b^c^d", "leastCover 0 = 8");
+        "cover 0 = 8", "formula 0 a^b^c^d", "leastCover 0 = 8",
+        // Of three prime cubes the last one, the middle one and the first one can be left out.
+        "formula 0 c&a|!c&b", "leastCover 0 = 2", "formula 0 b&a|!b&c", "leastCover 0 = 2",
+        "formula 0 a&b|!a&c", "leastCover 0 = 2");
     edges.test("Throws IndexOutOfBoundsException if there is no such slot",
         Edges.noSlot("leastCover @"));
     edges.test("Throws UnsupportedOperationException if it hangs on more than 6 variables, or has"

@@ -146,7 +146,8 @@ final class Edges {
     }
     for (int from = 0; from < 7; from++) {
       for (int to = 0; to < from; to++) {
-        all.add("ways " + house.answer("ways 0 " + from + " " + to) + " " + house.answer("checksum"));
+        String ways = house.answer("ways 0 " + from + " " + to);
+        all.add("ways " + ways + " " + house.answer("checksum"));
       }
     }
     return all;

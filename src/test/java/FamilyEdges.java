@@ -56,7 +56,8 @@ final class FamilyEdges {
         "add 0 0 = 1", "add 0 0 = 1", "formula 0 a|b|c|d|e|f|g|h|i|j", "ofFunction 0 0 = 1023",
         "add 0 1 = 1023", "add 0 0 = 1024", "add 0 0 = 1024", "add 0 1023 = 1024");
     edges.test("Throws IndexOutOfBoundsException if there is no such slot",
-        Edges.noFamily("add @ 0", "add @ 1023"), "add 6 0" + Edges.BOUNDS, "add 7 0" + Edges.BOUNDS);
+        Edges.noFamily("add @ 0", "add @ 1023"), "add 6 0" + Edges.BOUNDS,
+        "add 7 0" + Edges.BOUNDS);
     edges.test("Throws IllegalArgumentException if a number is out of range",
         FULL, Edges.noSet("add 0 @", "add 5 @"));
     edges.first("add", Edges.noFamily("add @ -1", "add @ 1024"));
@@ -82,7 +83,9 @@ final class FamilyEdges {
         "join 2 0 1 - = 2", "list 2 = 1 3", "join 2 0 1 * = 5", "list 2 = 2 3 5 6 7",
         noWays("join 2 0 1 "));
     edges.test("Returns how many sets it has.",
-        "join 2 0 0 - = 0", "join 2 3 3 * = 0", "join 2 0 3 * = 0", "join 2 3 0 * = 0", FULL,
+        "join 2 0 0 - = 0", "join 2 3 3 * = 0", "join 2 0 3 * = 0", "join 2 3 0 * = 0",
+        "sets 3 0 1", "join 2 3 1 * = 4", "list 2 = 2 3 4 5", "join 2 1 3 * = 4", "sets 3 0",
+        "join 2 3 1 * = 2", "list 2 = 2 4", "join 2 1 3 * = 2", "list 2 = 2 4", FULL,
         "join 2 0 0 | = 1024", "join 2 0 0 * = 1024", "join 2 0 1 * = 1024", "join 2 1 1 * = 1",
         "join 2 0 0 & = 1024", "join 2 0 1 - = 1023", "join 2 0 0 - = 0");
     edges.test("Throws IndexOutOfBoundsException if there is no such slot, for any",
@@ -208,12 +211,14 @@ final class FamilyEdges {
         "ways 0 2 4 = 2", "list 0 = 12 136", "edge 9 4 2 = 10", "ways 0 2 4 = 3",
         "list 0 = 12 136 512", "undo = 100", "list 0 = 12 136", "undo = 100", "list 0 = ");
     edges.test("slot: the slot",
-        "ways 0 0 1 = 2", "ways 5 1 2 = 1", "list 0 = 1 64", "list 5 = 2", Edges.noFamily("ways @ 0 1"));
+        "ways 0 0 1 = 2", "ways 5 1 2 = 1", "list 0 = 1 64", "list 5 = 2",
+        Edges.noFamily("ways @ 0 1"));
     edges.test("from: 0 to 6",
         "ways 0 0 1 = 2", "ways 0 6 1 = 4", "ways 0 3 3 = 1", Edges.noCorner("ways 0 @ 1"));
     edges.test("to: 0 to 6; from one to itself the empty set alone is such a way",
         "ways 0 1 0 = 2", "ways 0 1 6 = 4", "ways 0 0 0 = 1", "list 0 = 0", "ways 0 6 6 = 1",
-        "list 0 = 0", "edge 0 4 4 = 8", "ways 0 4 4 = 1", "list 0 = 0", Edges.noCorner("ways 0 1 @"));
+        "list 0 = 0", "edge 0 4 4 = 8", "ways 0 4 4 = 1", "list 0 = 0",
+        Edges.noCorner("ways 0 1 @"));
     edges.test("Returns how many sets it has.",
         "ways 0 0 6 = 8", "setAt 0 0 = 63", "setAt 0 7 = 474", "ways 0 6 0 = 8", "edge 2 0 0",
         "edge 7 0 0", "ways 0 0 6 = 0", BUNDLES, "ways 0 0 1 = 3", "ways 0 4 6 = 4",
@@ -247,15 +252,19 @@ final class FamilyEdges {
         "ofFamily 2 0", "models 2 = 2", "value 2 0 = true", "value 2 1023 = true",
         "value 2 1 = false", "undo = 2", "models 2 = 0", "list 0 = 0 1023");
     edges.test("slot: the slot of functions",
-        "ofFamily 0 5 = 10", "ofFamily 7 5 = 10", "isSame 0 7 = true", Edges.noSlot("ofFamily @ 0"));
+        "ofFamily 0 5 = 10", "ofFamily 7 5 = 10", "isSame 0 7 = true",
+        Edges.noSlot("ofFamily @ 0"));
     edges.test("family: the slot of families",
-        "ofFamily 1 0 = 19", "ofFamily 1 5 = 10", "value 1 512 = true", Edges.noFamily("ofFamily 0 @"));
+        "ofFamily 1 0 = 19", "ofFamily 1 5 = 10", "value 1 512 = true",
+        Edges.noFamily("ofFamily 0 @"));
     edges.test("Returns how many nodes it has then.",
         "ofFamily 1 1 = 0", "models 1 = 0", FULL, "ofFamily 1 0 = 0", "models 1 = 1024",
         "ofFamily 1 1 = 10", "models 1 = 1");
     edges.test("Throws IndexOutOfBoundsException if there is no such slot, for either",
-        Edges.noSlot("ofFamily @ 0", "ofFamily @ 5"), Edges.noFamily("ofFamily 0 @", "ofFamily 7 @"),
-        "ofFamily 0 6" + Edges.BOUNDS, "ofFamily 0 7" + Edges.BOUNDS, "ofFamily 8 6" + Edges.BOUNDS);
+        Edges.noSlot("ofFamily @ 0", "ofFamily @ 5"),
+        Edges.noFamily("ofFamily 0 @", "ofFamily 7 @"),
+        "ofFamily 0 6" + Edges.BOUNDS, "ofFamily 0 7" + Edges.BOUNDS,
+        "ofFamily 8 6" + Edges.BOUNDS);
   }
 
   private static void ofFunction(Edges edges) {

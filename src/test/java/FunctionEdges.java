@@ -84,7 +84,8 @@ final class FunctionEdges {
         "make 2 0 7 & = 3", "models 2 = 128", "make 0 0 0 ^ = 0", "models 0 = 0", "undo = 0",
         "undo = 2", "undo = 7");
     edges.test("slot: the slot",
-        "make 0 1 7 & = 2", "hangs 0 = 514", "make 7 1 1 & = 1", "hangs 7 = 2", Edges.noSlot("make @ 0 1 &"));
+        "make 0 1 7 & = 2", "hangs 0 = 514", "make 7 1 1 & = 1", "hangs 7 = 2",
+        Edges.noSlot("make @ 0 1 &"));
     edges.test("a: the one",
         "make 2 0 1 - = 0", "make 2 7 1 - = 2", "models 2 = 256", Edges.noSlot("make 0 @ 1 &"));
     edges.test("b: the other one",
@@ -147,7 +148,8 @@ final class FunctionEdges {
     edges.test("slot: the slot",
         "fix 0 0 0 true = 1", "fix 7 0 0 true = 1", "hangs 7 = 2", Edges.noSlot("fix @ 0 0 true"));
     edges.test("a: the function",
-        "fix 1 0 1 true = 2", "fix 1 7 1 true = 1", "hangs 1 = 512", Edges.noSlot("fix 0 @ 0 true"));
+        "fix 1 0 1 true = 2", "fix 1 7 1 true = 1", "hangs 1 = 512",
+        Edges.noSlot("fix 0 @ 0 true"));
     edges.test("variable: 0 to 9",
         "fix 1 0 0 true = 1", "fix 1 0 9 true = 2", "models 1 = 768", "fix 1 0 9 false = 2",
         "models 1 = 256", "fix 1 0 8 true = 3", Edges.noVariable("fix 0 0 @ true"));
@@ -243,7 +245,8 @@ final class FunctionEdges {
     edges.test("Returns how many.",
         "nodes 0 = 0", "table 0 -1", "nodes 0 = 0", "formula 0 j", "nodes 0 = 1",
         MOST_NODES, "nodes 0 = 261", "nodes 1 = 261");
-    edges.test("Throws IndexOutOfBoundsException if there is no such slot", Edges.noSlot("nodes @"));
+    edges.test("Throws IndexOutOfBoundsException if there is no such slot",
+        Edges.noSlot("nodes @"));
   }
 
   private static void allNodes(Edges edges) {
@@ -266,7 +269,8 @@ final class FunctionEdges {
     edges.test("Returns their set.",
         "hangs 0 = 0", "table 0 -1", "hangs 0 = 0", "formula 0 a^b^c^d^e^f^g^h^i^j",
         "hangs 0 = 1023", "sets 0 0", "ofFamily 0 0", "hangs 0 = 1023");
-    edges.test("Throws IndexOutOfBoundsException if there is no such slot", Edges.noSlot("hangs @"));
+    edges.test("Throws IndexOutOfBoundsException if there is no such slot",
+        Edges.noSlot("hangs @"));
   }
 
   private static void isSame(Edges edges) {
@@ -279,7 +283,8 @@ final class FunctionEdges {
         "isSame 0 1 = false", "isSame 7 1 = false", Edges.noSlot("isSame @ 0"));
     edges.test("b: the other one",
         "isSame 1 0 = false", "isSame 1 7 = false", Edges.noSlot("isSame 0 @"));
-    edges.test("Returns true if so.", "isSame 0 0 = true", "isSame 7 7 = true", "isSame 6 7 = false");
+    edges.test("Returns true if so.", "isSame 0 0 = true", "isSame 7 7 = true",
+        "isSame 6 7 = false");
     edges.test("Throws IndexOutOfBoundsException if there is no such slot, for any",
         Edges.noSlot("isSame @ 0", "isSame 7 @", "isSame @ @"));
   }
@@ -334,8 +339,11 @@ final class FunctionEdges {
             + " it never becomes true, '*' otherwise.",
         "sort 1 0 = 0", "table 1 -1", "sort 1 9 = 0", "sets 0 1023", "ofFamily 1 0", "sort 1 0 = +",
         "sort 1 9 = +", "sets 0 0", "ofFamily 1 0", "sort 1 0 = -", "sort 1 9 = -", "sets 0 0 1023",
-        "ofFamily 1 0", "sort 1 0 = *", "sort 1 9 = *");
-    edges.test("Throws IndexOutOfBoundsException if there is no such slot", Edges.noSlot("sort @ 9"));
+        "ofFamily 1 0", "sort 1 0 = *", "sort 1 9 = *", "sets 0 1", "ofFamily 1 0",
+        "sort 1 0 = +", "sort 1 1 = -", "sort 1 9 = -", "sets 0 512", "ofFamily 1 0",
+        "sort 1 0 = -", "sort 1 8 = -", "sort 1 9 = +");
+    edges.test("Throws IndexOutOfBoundsException if there is no such slot",
+        Edges.noSlot("sort @ 9"));
     edges.test("Throws IllegalArgumentException if there is no such variable",
         Edges.noVariable("sort 0 @", "sort 7 @"));
     edges.first("sort", Edges.noSlot("sort @ -1", "sort @ 10"));

@@ -51,7 +51,8 @@ final class MachineEdges {
         "image 7 0 7 = 5", "value 7 0 = true", "image 0 0 7 = 8", "models 0 = 64",
         Edges.noSlot("image @ 0 1"));
     edges.test("step: the step",
-        "image 2 1 1", "models 2 = 1024", "image 2 7 1", "models 2 = 0", Edges.noSlot("image 0 @ 1"));
+        "image 2 1 1", "models 2 = 1024", "image 2 7 1", "models 2 = 0",
+        Edges.noSlot("image 0 @ 1"));
     edges.test("from: the states",
         "image 2 0 7 = 5", "value 2 0 = true", "formula 0 !a&!b&!c&!d&!e", "image 2 0 0 = 0",
         "models 2 = 1024", Edges.noSlot("image 0 0 @"));
@@ -73,7 +74,8 @@ final class MachineEdges {
         "value 2 31 = true", "hangs 2 = 31", "states 3 5", "reach 2 0 3 = 5", "value 2 5 = true",
         "models 2 = 32", "reach 3 0 3 = 5", "undo = 3", "undo = 2");
     edges.test("slot: the slot",
-        "reach 7 0 7", "models 7 = 96", "reach 0 0 1", "models 0 = 96", Edges.noSlot("reach @ 0 1"));
+        "reach 7 0 7", "models 7 = 96", "reach 0 0 1", "models 0 = 96",
+        Edges.noSlot("reach @ 0 1"));
     edges.test("step: the step",
         "reach 2 1 1", "models 2 = 1024", "reach 2 7 1 = 5", "models 2 = 32",
         Edges.noSlot("reach 0 @ 1"));
@@ -101,7 +103,8 @@ final class MachineEdges {
         "formula 0 !a&!b&!c&!d&!e", "steps 0 0 7 = 1", "steps 0 7 0 = -1", "steps 0 7 7 = 0",
         Edges.noSlot("steps 0 @ 7"));
     edges.test("to: the others",
-        "formula 0 !a&!b&!c&!d&!e", "steps 0 1 0 = 0", "steps 0 1 7 = 1", Edges.noSlot("steps 0 1 @"));
+        "formula 0 !a&!b&!c&!d&!e", "steps 0 1 0 = 0", "steps 0 1 7 = 1",
+        Edges.noSlot("steps 0 1 @"));
     edges.test("Returns how many, -1 if none lead there.",
         "steps 0 1 1 = 0", "steps 6 1 1 = 0", "steps 6 1 7 = -1", "steps 0 6 7 = -1",
         "steps 0 1 6 = -1", "steps 0 6 6 = -1", LINE, "steps 0 1 7 = 31", "steps 0 7 1 = -1",

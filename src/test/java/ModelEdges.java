@@ -1,3 +1,6 @@
+import java.util.ArrayList;
+import java.util.List;
+
 /** The edges that promises 21 to 30 name: models, weights and the order. */
 final class ModelEdges {
   /** Ten weights that have no divisor in common with 100, so that chances are as long as can be. */
@@ -26,7 +29,8 @@ final class ModelEdges {
     edges.test("Returns how many models a function has.",
         "formula 0 a|j", "models 0 = 768", "undo", "models 0 = 0");
     edges.test("slot: the slot",
-        "formula 0 a", "formula 7 a&j", "models 0 = 512", "models 7 = 256", Edges.noSlot("models @"));
+        "formula 0 a", "formula 7 a&j", "models 0 = 512", "models 7 = 256",
+        Edges.noSlot("models @"));
     edges.test("Returns how many.",
         "models 0 = 0", "table 0 -1", "models 0 = 1024", "sets 0 0", "ofFamily 0 0",
         "models 0 = 1", "sets 0 1023", "ofFamily 0 0", "models 0 = 1",
@@ -91,7 +95,8 @@ final class ModelEdges {
         "tellChance 1", "told = 1/2", "weigh 0 2 3 = 1", "tellChance 0", "told = 2/3");
     edges.test("variable: 0 to 9",
         "formula 0 a", "formula 7 j", "weigh 0 1 3 = 1", "weigh 9 1 4 = 2",
-        "tellChance 0", "told = 1/3", "tellChance 7", "told = 1/4", Edges.noVariable("weigh @ 1 3"));
+        "tellChance 0", "told = 1/3", "tellChance 7", "told = 1/4",
+        Edges.noVariable("weigh @ 1 3"));
     edges.test("above: 0 to below",
         "formula 0 a", "weigh 0 0 5 = 1", "tellChance 0", "told = 0/1", "weigh 0 5 5 = 1",
         "tellChance 0", "told = 1/1", Edges.beyond(0, 5, Edges.ARGUMENT, "weigh 0 @ 5"),
@@ -113,10 +118,26 @@ final class ModelEdges {
         "weigh -1 -1 0" + Edges.ARGUMENT, "formula 0 a", "tellChance 0", "told = 1/3");
   }
 
+  /** A chance of 1/n and one of n/100 make one of 1/100, whatever n has for divisors. */
+  private static List<String> commonDivisors(int first) {
+    List<String> lines = new ArrayList<>(List.of("formula 0 a&j"));
+    for (int number = first; number < first + 34 && number <= 100; number++) {
+      lines.add("weigh 0 1 " + number);
+      lines.add("weigh 9 " + number + " 100");
+      lines.add("tellChance 0 = 5");
+      lines.add("told = 1/100");
+    }
+    return lines;
+  }
+
   private static void tellChance(Edges edges) {
     edges.about("tellChance");
-    edges.test("Puts the chance of a function into the text: a number, '/', and a number above 0,"
-            + " without a common divisor.",
+    String sentence = "Puts the chance of a function into the text: a number, '/', and a number"
+        + " above 0, without a common divisor.";
+    for (int first = 1; first <= 100; first += 34) {
+      edges.test(sentence, commonDivisors(first));
+    }
+    edges.test(sentence,
         "tellChance 0 = 3", "told = 0/1", "table 0 -1", "tellChance 0 = 3", "told = 1/1",
         "formula 0 a&b|c", "tellChance 0 = 3", "told = 5/8", "weigh 0 96 97", "weigh 1 97 97",
         "weigh 2 0 97", "tellChance 0 = 5", "told = 96/97", "weigh 0 0 1", "tellChance 0 = 3",
@@ -130,7 +151,10 @@ final class ModelEdges {
         "told = 90438207500880449001/100000000000000000000", "formula 0 a|b|c|d|e|f|g|h|i|j",
         "tellChance 0 = 41", "told = 9561792499119550999/100000000000000000000",
         "formula 0 a&b&c&d&e&f&g&h&i&j", "tellChance 0 = 23", "told = 1/100000000000000000000",
-        "table 0 -1", "tellChance 0 = 3", "told = 1/1");
+        "formula 0 a&b&c", "tellChance 0 = 9", "told = 1/1000000", "weigh 2 1 99",
+        "tellChance 0 = 8", "told = 1/990000", "weigh 3 1 2", "formula 0 a&b&c&d",
+        "tellChance 0 = 9", "told = 1/1980000", "weigh 2 99 100", "formula 0 !a&!b&!c",
+        "tellChance 0 = 12", "told = 9801/1000000", "table 0 -1", "tellChance 0 = 3", "told = 1/1");
     edges.test("Throws IndexOutOfBoundsException if there is no such slot",
         "text a", Edges.noSlot("tellChance @"), "told = a");
   }
@@ -212,6 +236,7 @@ final class ModelEdges {
         "formula 0 a&b&c&d&e&f", "fewest 0" + Edges.UNSUPPORTED, "formula 0 e|f|g|h|i|j",
         "fewest 0" + Edges.UNSUPPORTED, "formula 0 a^b^c^d^e^f^g^h^i^j",
         "fewest 0" + Edges.UNSUPPORTED, "formula 0 a&b&c&d&e&(f|!f)", "fewest 0 = 5");
-    edges.first("fewest", "formula 0 a&b&c&d&e&f", "formula 7 a&b&c&d&e&f", Edges.noSlot("fewest @"));
+    edges.first("fewest", "formula 0 a&b&c&d&e&f", "formula 7 a&b&c&d&e&f",
+        Edges.noSlot("fewest @"));
   }
 }

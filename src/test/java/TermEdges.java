@@ -53,7 +53,8 @@ final class TermEdges {
     edges.test("No change of the order changes a function, and changing two neighbours about and"
             + " back is nothing.",
         FunctionEdges.MOST_NODES, "mark", aboutAndBack(), "repeat 2 swap 0", "marked = true",
-        "formula 7 a&j", "swap 0", "swap 4", "swap 8", "sift", "models 7 = 256", "value 7 513 = true",
+        "formula 7 a&j", "swap 0", "swap 4", "swap 8", "sift", "models 7 = 256",
+        "value 7 513 = true",
         "value 7 1 = false", "hangs 7 = 513");
     edges.test("The models are as many as told, the one with a number has this rank, and ranks are"
             + " one to one.",
@@ -165,7 +166,8 @@ final class TermEdges {
         "formula 0 a|b&c^d", "models 0 = 768", "value 0 1 = true", "value 0 6 = true",
         "value 0 8 = true", "value 0 14 = false", "value 0 15 = true", "formula 0 d^c&b|a",
         "models 0 = 768", "formula 0 a^b^c", "value 0 7 = true", "value 0 3 = false",
-        "value 0 4 = true", "formula 0 a|b|c", "models 0 = 896", "formula 0 a&b&c", "models 0 = 128",
+        "value 0 4 = true", "formula 0 a|b|c", "models 0 = 896", "formula 0 a&b&c",
+        "models 0 = 128",
         "formula 0 (a|b)&c", "models 0 = 384", "formula 0 (a^b)&c", "models 0 = 256",
         "formula 0 a^b|c", "models 0 = 768", "formula 0 a^(b|c)", "models 0 = 512");
     edges.test(sentence,
@@ -279,7 +281,8 @@ final class TermEdges {
     }
     edges.test("Each variable has a weight, a fraction from 0 to 1, at first 1/2, its chance to be"
             + " 1; all are independent.",
-        halves, "weigh 0 0 100 = 1", "formula 0 a", "tellChance 0", "told = 0/1", "weigh 0 100 100 = 1",
+        halves, "weigh 0 0 100 = 1", "formula 0 a", "tellChance 0", "told = 0/1",
+        "weigh 0 100 100 = 1",
         "tellChance 0", "told = 1/1", "weigh 0 1 3", "weigh 1 1 5", "formula 0 a&b",
         "tellChance 0", "told = 1/15");
     edges.test("The chance of a row is the product of the weights of the variables that are 1, and"
@@ -375,7 +378,8 @@ final class TermEdges {
     }
     edges.about("Terms");
     edges.test(sentence,
-        "table 0 1", "repeat 11 add 0 5", "undo = 100", "add 0 6", "add 0 7", "repeat 12 undo = 100",
+        "table 0 1", "repeat 11 add 0 5", "undo = 100", "add 0 6", "add 0 7",
+        "repeat 12 undo = 100",
         "undo" + Edges.NONE, "models 0 = 16", "list 0 = ");
     edges.test("The order, weights and edges are not kept.",
         "swap 0", "weigh 0 1 3", "edge 0 0 1", "sift", "undo" + Edges.NONE, "table 0 2", "swap 0",
