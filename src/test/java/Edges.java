@@ -17,6 +17,11 @@ final class Edges {
   static final String NONE = " = throws.NoSuchElementException";
   static final String UNSUPPORTED = " = throws.UnsupportedOperationException";
   private static final int CALLS = 512;
+  /** What leaves no weights, ways or order as at first, and keeps twelve calls. */
+  private static final String[] USED = {
+    "weigh 0 2 5", "weigh 9 1 3", "weigh 5 0 1", "edge 0 0 1", "edge 9 1 6", "edge 4 0 6", "swap 0",
+    "swap 8", "repeat 12 add 3 9"
+  };
 
   private final Document document = new Document();
   private final Set<String> severals = new TreeSet<>();
@@ -115,21 +120,31 @@ final class Edges {
       Check.same(place + ", the sum", house.answer("checksum"), plain.answer("checksum"));
       if (due != null && due.startsWith("throws.")) {
         changesNothing(place, all.subList(0, at), call);
+        changesNothing(place + ", of a used house", all.subList(0, at), call, USED);
       }
     }
     Check.same(what + ", no more calls than are promised", house.calls() <= CALLS, true);
   }
 
-  private static void changesNothing(String what, List<String> ahead, String refused) {
+  /** Compares a house that refused calls with one that was never asked for these. */
+  private static void changesNothing(String what, List<String> ahead, String refused,
+      String... used) {
     Script without = new Script(new Forkhouse());
     Script with = new Script(new Forkhouse());
-    for (String line : ahead) {
-      without.answer(callOf(line));
-      with.answer(callOf(line));
+    for (String line : used) {
+      without.answer(line);
+      with.answer(line);
     }
-    with.answer(refused);
-    Check.same(what + ", all that is there", allOf(with), allOf(without));
-    Check.same(what + ", no more calls than are promised", with.calls() <= CALLS, true);
+    // Of a house that is used already some calls are refused no more.
+    for (String line : ahead) {
+      if (!with.answer(callOf(line)).startsWith("throws.")) {
+        without.answer(callOf(line));
+      }
+    }
+    if (with.answer(refused).startsWith("throws.")) {
+      Check.same(what + ", all that is there", allOf(with), allOf(without));
+      Check.same(what + ", no more calls than are promised", with.calls() <= CALLS, true);
+    }
   }
 
   /** All that a house holds, told by calls that leave it of no more use. */
