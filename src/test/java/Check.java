@@ -29,7 +29,7 @@ final class Check {
   }
 
   /** The call throws just this exception, and the house is afterwards as it was. */
-  static void fails(String what, Forkhouse house, Class<?> exception, Call call) {
+  static void fails(String what, House house, Class<?> exception, Call call) {
     long before = house.checksum();
     same(what, outcome(call), "throws." + exception.getSimpleName());
     same(what + ", what is there afterwards", house.checksum(), before);

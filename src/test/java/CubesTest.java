@@ -10,7 +10,7 @@ public final class CubesTest {
 
   private CubesTest() {}
 
-  private static List<String> primesOf(Forkhouse house, int slot) {
+  private static List<String> primesOf(House house, int slot) {
     List<String> told = new ArrayList<>();
     for (int index = 0; index < house.primes(slot); index++) {
       int signs = house.tellPrime(slot, index);
@@ -20,7 +20,7 @@ public final class CubesTest {
     return told;
   }
 
-  private static List<String> coverOf(Forkhouse house, int slot) {
+  private static List<String> coverOf(House house, int slot) {
     List<String> told = new ArrayList<>();
     for (int index = 0; index < house.cover(slot); index++) {
       int signs = house.tellCover(slot, index);
@@ -32,7 +32,7 @@ public final class CubesTest {
 
   /** Promises 31 and 32. */
   private static void primes() {
-    Forkhouse house = Houses.with("a&b|!a&c", "1", "0", "a|b|c|d|e|f", "j&!h&e",
+    House house = Houses.with("a&b|!a&c", "1", "0", "a|b|c|d|e|f", "j&!h&e",
         "a^b^c^d^e^f", "!(a&b&c)&(a|b|c)", SEVEN);
     Check.same("primes of a choice", house.primes(0), 3);
     Check.same("they are", primesOf(house, 0), List.of("bc", "!ac", "ab"));
@@ -54,7 +54,7 @@ public final class CubesTest {
     wrongPrimes(house);
   }
 
-  private static void wrongPrimes(Forkhouse house) {
+  private static void wrongPrimes(House house) {
     for (int slot : Houses.NO_SLOTS) {
       Check.fails("primes " + slot, house, IndexOutOfBoundsException.class,
           () -> house.primes(slot));
@@ -77,7 +77,7 @@ public final class CubesTest {
 
   /** Promises 33 and 34. */
   private static void cover() {
-    Forkhouse house = Houses.with("a&b|!a&c", "1", "0", "a|b|c|d|e|f", "a^b^c^d^e^f",
+    House house = Houses.with("a&b|!a&c", "1", "0", "a|b|c|d|e|f", "a^b^c^d^e^f",
         "!(g&h&i)&(g|h|i)", "a&b|b&c|c&a", SEVEN);
     Check.same("cover of a choice", house.cover(0), 2);
     Check.same("it is", coverOf(house, 0), List.of("!ac", "ab"));
@@ -108,7 +108,7 @@ public final class CubesTest {
 
   /** Promise 35. */
   private static void leastCover() {
-    Forkhouse house = Houses.with("a&b|!a&c", "1", "0", "!(g&h&i)&(g|h|i)", "a^b^c^d",
+    House house = Houses.with("a&b|!a&c", "1", "0", "!(g&h&i)&(g|h|i)", "a^b^c^d",
         "a^b^c^d^e", "a|b|c|d|e|f", SEVEN);
     Check.same("least cover of a choice", house.leastCover(0), 2);
     Check.same("least cover of all", house.leastCover(1), 1);

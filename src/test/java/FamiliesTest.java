@@ -14,13 +14,13 @@ public final class FamiliesTest {
     return list;
   }
 
-  private static void holds(String what, Forkhouse house, int slot, int... sets) {
+  private static void holds(String what, House house, int slot, int... sets) {
     Check.same(what, Houses.sets(house, slot), list(sets));
   }
 
   /** Promise 40. */
   private static void add() {
-    Forkhouse house = new Forkhouse();
+    House house = new House();
     Check.same("add", house.add(0, 5), 1);
     Check.same("add the empty set", house.add(0, 0), 2);
     Check.same("add all things", house.add(0, 1023), 3);
@@ -45,7 +45,7 @@ public final class FamiliesTest {
 
   /** Promise 41. */
   private static void join() {
-    Forkhouse house = new Forkhouse();
+    House house = new House();
     Houses.family(house, 0, 1, 2, 12);
     Houses.family(house, 1, 2, 5, 12, 0);
     Check.same("join |", house.join(2, 0, 1, '|'), 5);
@@ -72,7 +72,7 @@ public final class FamiliesTest {
     wrongJoins(house);
   }
 
-  private static void wrongJoins(Forkhouse house) {
+  private static void wrongJoins(House house) {
     for (int slot : Houses.NO_FAMILIES) {
       Check.fails("join into " + slot, house, IndexOutOfBoundsException.class,
           () -> house.join(slot, 0, 1, '?'));
@@ -89,7 +89,7 @@ public final class FamiliesTest {
 
   /** Promise 42. */
   private static void least() {
-    Forkhouse house = new Forkhouse();
+    House house = new House();
     Houses.family(house, 0, 3, 1, 6, 7, 1020, 1023, 512);
     Check.same("least", house.least(1, 0), 3);
     holds("the least sets", house, 1, 1, 6, 512);
@@ -110,7 +110,7 @@ public final class FamiliesTest {
 
   /** Promise 43. */
   private static void hitting() {
-    Forkhouse house = new Forkhouse();
+    House house = new House();
     Houses.family(house, 0, 3, 6, 3 + 512);
     Check.same("hitting", house.hitting(1, 0), 2);
     holds("b, or a and c", house, 1, 2, 5);
@@ -136,7 +136,7 @@ public final class FamiliesTest {
 
   /** Promise 44. */
   private static void setAt() {
-    Forkhouse house = new Forkhouse();
+    House house = new House();
     Houses.family(house, 0, 1023, 512, 0, 65, 64, 63);
     holds("by rising numbers", house, 0, 0, 63, 64, 65, 512, 1023);
     Check.same("setAt 4", house.setAt(0, 4), 512);
@@ -155,7 +155,7 @@ public final class FamiliesTest {
 
   /** Promise 45. */
   private static void familyNodes() {
-    Forkhouse house = new Forkhouse();
+    House house = new House();
     Check.same("nodes of a family without sets", house.familyNodes(0), 0);
     house.add(0, 0);
     Check.same("nodes of the empty set alone", house.familyNodes(0), 0);
@@ -180,7 +180,7 @@ public final class FamiliesTest {
 
   /** Promise 46. */
   private static void edge() {
-    Forkhouse house = new Forkhouse();
+    House house = new House();
     Check.same("edge", house.edge(0, 0, 6), 1);
     Check.same("edge of another thing", house.edge(9, 6, 0), 2);
     Check.same("edge in place of what it was", house.edge(0, 1, 2), 2);
@@ -206,7 +206,7 @@ public final class FamiliesTest {
 
   /** Promise 47. */
   private static void ways() {
-    Forkhouse house = new Forkhouse();
+    House house = new House();
     Check.same("ways without any", house.ways(0, 0, 1), 0);
     Check.same("ways from a corner to itself", house.ways(0, 3, 3), 1);
     holds("the empty set alone", house, 0, 0);
@@ -244,7 +244,7 @@ public final class FamiliesTest {
     }
   }
 
-  private static void manyWays(Forkhouse house) {
+  private static void manyWays(House house) {
     int thing = 0;
     for (int from = 0; from < 5; from++) {
       for (int to = from + 1; to < 5; to++) {
@@ -263,7 +263,7 @@ public final class FamiliesTest {
 
   /** Promise 48. */
   private static void pairings() {
-    Forkhouse house = new Forkhouse();
+    House house = new House();
     Check.same("pairings without ways", house.pairings(0), 1);
     holds("no way at all", house, 0, 0);
     house.edge(0, 0, 1);
@@ -286,7 +286,7 @@ public final class FamiliesTest {
 
   /** Promises 49 and 50. */
   private static void ofFamilyAndOfFunction() {
-    Forkhouse house = new Forkhouse();
+    House house = new House();
     Houses.family(house, 0, 0, 3, 1023);
     Check.same("ofFamily", house.ofFamily(2, 0), house.nodes(2));
     Houses.isTrueWhere("ofFamily", house, 2, row -> row == 0 || row == 3 || row == 1023);

@@ -8,7 +8,7 @@ public final class FiguresTest {
 
   /** Promise 51. */
   private static void undo() {
-    Forkhouse house = new Forkhouse();
+    House house = new House();
     Check.fails("undo at first", house, NoSuchElementException.class, () -> house.undo());
     long first = house.checksum();
     house.table(3, 5L);
@@ -28,7 +28,7 @@ public final class FiguresTest {
   }
 
   private static void undoOfTwelve() {
-    Forkhouse house = new Forkhouse();
+    House house = new House();
     List<Long> sums = new ArrayList<>();
     for (int call = 0; call < 20; call++) {
       sums.add(house.checksum());
@@ -49,7 +49,7 @@ public final class FiguresTest {
   }
 
   private static void undoOfTheSame() {
-    Forkhouse house = new Forkhouse();
+    House house = new House();
     house.table(0, 3L);
     house.table(0, 3L);
     Check.same("what became the same is kept", house.undo(), 0);
@@ -59,7 +59,7 @@ public final class FiguresTest {
   }
 
   private interface Change {
-    int run(Forkhouse house);
+    int run(House house);
   }
 
   /** Each call that lets a slot become something is kept, with the slot that undo tells. */
@@ -84,8 +84,8 @@ public final class FiguresTest {
     isKept("ofFunction", 103, house -> house.ofFunction(3, 0));
   }
 
-  private static Forkhouse filled() {
-    Forkhouse house = Houses.with("a&b|g", "c", "a^f|b&i");
+  private static House filled() {
+    House house = Houses.with("a&b|g", "c", "a^f|b&i");
     Houses.family(house, 0, 3, 7, 12);
     Houses.family(house, 1, 5, 64);
     house.edge(0, 0, 1);
@@ -97,7 +97,7 @@ public final class FiguresTest {
   }
 
   private static void isKept(String what, int code, Change change) {
-    Forkhouse house = filled();
+    House house = filled();
     long before = house.checksum();
     change.run(house);
     Check.same(what + " changes something", house.checksum() == before, false);
@@ -112,7 +112,7 @@ public final class FiguresTest {
 
   /** Calls that let no slot become something are not kept. */
   private static void othersAreNotKept() {
-    Forkhouse house = new Forkhouse();
+    House house = new House();
     house.type('a');
     house.erase();
     house.swap(3);
@@ -143,8 +143,8 @@ public final class FiguresTest {
     for (int variable = 0; variable < 10; variable++) {
       sum = sum * 31 + variable;
     }
-    Check.same("checksum at first", new Forkhouse().checksum(), sum);
-    Forkhouse house = Houses.with("j", "a&b");
+    Check.same("checksum at first", new House().checksum(), sum);
+    House house = Houses.with("j", "a&b");
     house.swap(8);
     Houses.family(house, 0, 512, 3);
     Houses.family(house, 5, 0);
@@ -156,11 +156,11 @@ public final class FiguresTest {
     Check.same("it is told twice alike", house.checksum(), house.checksum());
   }
 
-  private static long sumOf(Forkhouse house) {
+  private static long sumOf(House house) {
     long sum = 7;
     for (int slot = 0; slot < 8; slot++) {
-      for (int row = 0; row < 1024; row++) {
-        sum = sum * 31 + (house.value(slot, row) ? 1 : 0);
+      for (boolean isTrue : house.rows(slot)) {
+        sum = sum * 31 + (isTrue ? 1 : 0);
       }
     }
     for (int slot = 0; slot < 6; slot++) {
@@ -181,9 +181,9 @@ public final class FiguresTest {
 
   /** Promise 53. */
   private static void isSound() {
-    Forkhouse house = new Forkhouse();
+    House house = new House();
     Check.same("sound at first", house.isSound(), true);
-    Forkhouse full = filled();
+    House full = filled();
     full.weigh(0, 0, 1);
     full.weigh(3, 99, 100);
     full.swap(1);
@@ -203,7 +203,7 @@ public final class FiguresTest {
 
   /** Of all calls that can throw, in all ways: nothing is kept, and weights and edges stay. */
   private static void nothingIsKeptOfWhatThrows() {
-    Forkhouse house = new Forkhouse();
+    House house = new House();
     Change[] calls = {
       h -> h.type('\n'), h -> h.signAt(0), h -> h.read(8), h -> h.table(-1, 1L),
       h -> h.value(0, 1024) ? 1 : 0, h -> h.make(0, 0, 0, '?'), h -> h.make(0, 0, 8, '&'),

@@ -8,7 +8,7 @@ public final class FunctionsTest {
 
   /** Promise 6. */
   private static void table() {
-    Forkhouse house = new Forkhouse();
+    House house = new House();
     Check.same("table of a", house.table(0, 0xAAAAAAAAAAAAAAAAL), 1);
     Houses.isTrueWhere("table of a", house, 0, row -> bit(row, 'a'));
     Check.same("table of f", house.table(7, 0xFFFFFFFF00000000L), 1);
@@ -31,7 +31,7 @@ public final class FunctionsTest {
 
   /** Promise 7. */
   private static void value() {
-    Forkhouse house = Houses.with("a&j|!a&!j");
+    House house = Houses.with("a&j|!a&!j");
     Check.same("value 0", house.value(0, 0), true);
     Check.same("value 1", house.value(0, 1), false);
     Check.same("value 512", house.value(0, 512), false);
@@ -53,7 +53,7 @@ public final class FunctionsTest {
 
   /** Promise 8. */
   private static void make() {
-    Forkhouse house = Houses.with("a", "h");
+    House house = Houses.with("a", "h");
     Check.same("make &", house.make(2, 0, 1, '&'), 2);
     Houses.isTrueWhere("make &", house, 2, row -> bit(row, 'a') && bit(row, 'h'));
     Check.same("make |", house.make(2, 0, 1, '|'), 2);
@@ -86,7 +86,7 @@ public final class FunctionsTest {
 
   /** Promise 9. */
   private static void choose() {
-    Forkhouse house = Houses.with("a", "c&d", "e|j");
+    House house = Houses.with("a", "c&d", "e|j");
     Check.same("choose", house.choose(3, 0, 1, 2), 5);
     Houses.isTrueWhere("choose", house, 3, row ->
         bit(row, 'a') ? bit(row, 'c') && bit(row, 'd') : bit(row, 'e') || bit(row, 'j'));
@@ -110,7 +110,7 @@ public final class FunctionsTest {
 
   /** Promise 10. */
   private static void fix() {
-    Forkhouse house = Houses.with("a&b|!a&c^j", "f&g|!f&h");
+    House house = Houses.with("a&b|!a&c^j", "f&g|!f&h");
     Check.same("fix a to 1", house.fix(2, 0, 0, true), 2);
     Houses.isTrueWhere("fix a to 1", house, 2, row -> bit(row, 'b') || bit(row, 'j'));
     house.fix(2, 0, 0, false);
@@ -139,7 +139,7 @@ public final class FunctionsTest {
 
   /** Promise 11. */
   private static void put() {
-    Forkhouse house = Houses.with("a&b|!a&c", "d^i", "g|h");
+    House house = Houses.with("a&b|!a&c", "d^i", "g|h");
     house.put(3, 0, 0, 1);
     Houses.isTrueWhere("put in place of a", house, 3, row ->
         bit(row, 'd') != bit(row, 'i') ? bit(row, 'b') : bit(row, 'c'));
@@ -172,7 +172,7 @@ public final class FunctionsTest {
 
   /** Promise 12. */
   private static void some() {
-    Forkhouse house = Houses.with("a&b&!j|c&j", "a^g");
+    House house = Houses.with("a&b&!j|c&j", "a^g");
     Check.same("some of no variable", house.some(2, 0, 0), house.nodes(0));
     Check.same("some of no variable is the same", house.isSame(0, 2), true);
     Check.same("some of j", house.some(2, 0, 512), 3);
@@ -200,7 +200,7 @@ public final class FunctionsTest {
 
   /** Promise 13. */
   private static void each() {
-    Forkhouse house = Houses.with("(a|b|!j)&(c|j)", "a|g");
+    House house = Houses.with("(a|b|!j)&(c|j)", "a|g");
     Check.same("each of no variable", house.each(2, 0, 0), house.nodes(0));
     Check.same("each of no variable is the same", house.isSame(0, 2), true);
     Check.same("each of j", house.each(2, 0, 512), 3);
@@ -229,7 +229,7 @@ public final class FunctionsTest {
 
   /** Promise 14. */
   private static void nodes() {
-    Forkhouse house = Houses.with("a&b|c&d|e&f", "a^b^c", "1", "0", "j", "a&c|b&d|!a&c&d");
+    House house = Houses.with("a&b|c&d|e&f", "a^b^c", "1", "0", "j", "a&c|b&d|!a&c&d");
     Check.same("nodes of three pairs", house.nodes(0), 6);
     Check.same("nodes of parity", house.nodes(1), 5);
     Check.same("nodes of what is everywhere", house.nodes(2), 0);
@@ -249,7 +249,7 @@ public final class FunctionsTest {
 
   /** Promise 15. */
   private static void allNodes() {
-    Forkhouse house = new Forkhouse();
+    House house = new House();
     Check.same("nodes of all, of nothing", house.allNodes(), 0);
     Houses.read(house, 0, "a&b");
     Houses.read(house, 3, "b");
@@ -267,7 +267,7 @@ public final class FunctionsTest {
 
   /** The most nodes that eight functions can have, by any number of swaps. */
   private static void manyNodes() {
-    Forkhouse house = new Forkhouse();
+    House house = new House();
     PlainHouse plain = new PlainHouse();
     long state = 12345;
     for (int slot = 0; slot < 8; slot++) {
@@ -296,7 +296,7 @@ public final class FunctionsTest {
 
   /** Promise 16. */
   private static void hangs() {
-    Forkhouse house = Houses.with("a&b|a&!b", "j^f^c", "a&b|c&d|e&f|g&h|i&j", "1");
+    House house = Houses.with("a&b|a&!b", "j^f^c", "a&b|c&d|e&f|g&h|i&j", "1");
     Check.same("hangs on a", house.hangs(0), 1);
     Check.same("hangs on c, f and j", house.hangs(1), 4 + 32 + 512);
     Check.same("hangs on all", house.hangs(2), 1023);
@@ -313,7 +313,7 @@ public final class FunctionsTest {
 
   /** Promises 17 and 18. */
   private static void isSameAndUnder() {
-    Forkhouse house = Houses.with("a&j", "a", "a&j|a&j&b", "j", "1");
+    House house = Houses.with("a&j", "a", "a&j|a&j&b", "j", "1");
     Check.same("same", house.isSame(0, 2), true);
     Check.same("same as itself", house.isSame(3, 3), true);
     Check.same("not the same", house.isSame(0, 1), false);
@@ -346,7 +346,7 @@ public final class FunctionsTest {
 
   /** Promise 19. */
   private static void isSymmetric() {
-    Forkhouse house = Houses.with("a&b|c", "a&j|b", "d&!h", "0", "g^i^c");
+    House house = Houses.with("a&b|c", "a&j|b", "d&!h", "0", "g^i^c");
     Check.same("a and b", house.isSymmetric(0, 0, 1), true);
     Check.same("b and a", house.isSymmetric(0, 1, 0), true);
     Check.same("a and c", house.isSymmetric(0, 0, 2), false);
@@ -376,7 +376,7 @@ public final class FunctionsTest {
 
   /** Promise 20. */
   private static void sort() {
-    Forkhouse house = Houses.with("a&!b|a&c", "h^i", "!j|g", "1");
+    House house = Houses.with("a&!b|a&c", "h^i", "!j|g", "1");
     Check.same("it hangs on a upwards", house.sort(0, 0), '+');
     Check.same("it hangs on b downwards", house.sort(0, 1), '-');
     Check.same("it hangs on c upwards", house.sort(0, 2), '+');

@@ -13,8 +13,8 @@ final class Houses {
   private Houses() {}
 
   /** A house whose first slots hold these formulas' functions. */
-  static Forkhouse with(String... formulas) {
-    Forkhouse house = new Forkhouse();
+  static House with(String... formulas) {
+    House house = new House();
     for (int slot = 0; slot < formulas.length; slot++) {
       int nodes = read(house, slot, formulas[slot]);
       if (nodes < 0) {
@@ -24,14 +24,14 @@ final class Houses {
     return house;
   }
 
-  static int read(Forkhouse house, int slot, String formula) {
+  static int read(House house, int slot, String formula) {
     house.erase();
     type(house, formula);
     return house.read(slot);
   }
 
   /** A text with a fault: the answer tells it, the text is gone, and the slot stays. */
-  static void fault(Forkhouse house, String signs, int place) {
+  static void fault(House house, String signs, int place) {
     house.erase();
     long before = house.checksum();
     type(house, signs);
@@ -39,13 +39,13 @@ final class Houses {
     Check.same("what is there after the fault in " + signs, house.checksum(), before);
   }
 
-  static void type(Forkhouse house, String signs) {
+  static void type(House house, String signs) {
     for (char sign : signs.toCharArray()) {
       house.type(sign);
     }
   }
 
-  static String text(Forkhouse house) {
+  static String text(House house) {
     StringBuilder text = new StringBuilder();
     for (int place = 0; place < 1000; place++) {
       try {
@@ -58,10 +58,11 @@ final class Houses {
   }
 
   /** Looks at a function in all rows. */
-  static void isTrueWhere(String what, Forkhouse house, int slot, IntPredicate due) {
+  static void isTrueWhere(String what, House house, int slot, IntPredicate due) {
     int wrong = 0;
-    for (int row = 0; row < 1024; row++) {
-      if (house.value(slot, row) != due.test(row)) {
+    boolean[] rows = house.rows(slot);
+    for (int row = 0; row < rows.length; row++) {
+      if (rows[row] != due.test(row)) {
         wrong++;
       }
     }
@@ -73,7 +74,7 @@ final class Houses {
   }
 
   /** Lets a slot become a set of states. */
-  static void states(Forkhouse house, int slot, int... states) {
+  static void states(House house, int slot, int... states) {
     long bits = 0;
     for (int state : states) {
       bits |= 1L << state | 1L << (state + 32);
@@ -81,7 +82,7 @@ final class Houses {
     house.table(slot, bits);
   }
 
-  static List<Integer> statesOf(Forkhouse house, int slot) {
+  static List<Integer> statesOf(House house, int slot) {
     List<Integer> states = new ArrayList<>();
     for (int state = 0; state < 32; state++) {
       if (house.value(slot, state)) {
@@ -92,7 +93,7 @@ final class Houses {
   }
 
   /** Lets a slot become a step, told by pairs of a state and the next one; uses the family 5. */
-  static void step(Forkhouse house, int slot, int... pairs) {
+  static void step(House house, int slot, int... pairs) {
     int[] rows = new int[pairs.length / 2];
     for (int i = 0; i < rows.length; i++) {
       rows[i] = pairs[2 * i] | pairs[2 * i + 1] << 5;
@@ -101,14 +102,14 @@ final class Houses {
     house.ofFamily(slot, 5);
   }
 
-  static void family(Forkhouse house, int slot, int... sets) {
+  static void family(House house, int slot, int... sets) {
     house.join(slot, slot, slot, '-');
     for (int set : sets) {
       house.add(slot, set);
     }
   }
 
-  static List<Integer> sets(Forkhouse house, int slot) {
+  static List<Integer> sets(House house, int slot) {
     List<Integer> sets = new ArrayList<>();
     for (int index = 0; index < 1025; index++) {
       try {
@@ -120,7 +121,7 @@ final class Houses {
     return sets;
   }
 
-  static List<Integer> order(Forkhouse house) {
+  static List<Integer> order(House house) {
     Integer[] order = new Integer[10];
     for (int variable = 0; variable < 10; variable++) {
       order[house.placeOf(variable)] = variable;

@@ -7,14 +7,14 @@ public final class MachinesTest {
   private MachinesTest() {}
 
   /** Slot 0 a step, 1 and 2 sets of states, 6 no set of states, 7 what is nowhere. */
-  private static Forkhouse machine(int... pairs) {
-    Forkhouse house = new Forkhouse();
+  private static House machine(int... pairs) {
+    House house = new House();
     Houses.step(house, 0, pairs);
     Houses.read(house, 6, "a&f");
     return house;
   }
 
-  private static List<Integer> way(Forkhouse house) {
+  private static List<Integer> way(House house) {
     List<Integer> way = new ArrayList<>();
     for (int index = 0; index <= house.steps(0, 1, 2); index++) {
       way.add(house.stateAt(0, 1, 2, index));
@@ -24,7 +24,7 @@ public final class MachinesTest {
 
   /** Promise 36. */
   private static void image() {
-    Forkhouse house = machine(0, 1, 1, 2, 2, 0, 3, 3, 3, 31, 31, 4);
+    House house = machine(0, 1, 1, 2, 2, 0, 3, 3, 3, 31, 31, 4);
     Houses.states(house, 1, 0, 3);
     Check.same("image", house.image(2, 0, 1), house.nodes(2));
     Check.same("image of 0 and 3", Houses.statesOf(house, 2), List.of(1, 3, 31));
@@ -46,7 +46,7 @@ public final class MachinesTest {
 
   /** Promise 37. */
   private static void reach() {
-    Forkhouse house = machine(0, 1, 1, 2, 2, 0, 3, 3, 9, 10, 10, 31, 31, 9, 31, 5);
+    House house = machine(0, 1, 1, 2, 2, 0, 3, 3, 9, 10, 10, 31, 31, 9, 31, 5);
     Houses.states(house, 1, 1);
     house.reach(2, 0, 1);
     Check.same("reach from 1", Houses.statesOf(house, 2), List.of(0, 1, 2));
@@ -73,7 +73,7 @@ public final class MachinesTest {
     int run(int slot, int step, int from);
   }
 
-  private static void wrong(String what, Forkhouse house, ThreeSlots call) {
+  private static void wrong(String what, House house, ThreeSlots call) {
     for (int slot : Houses.NO_SLOTS) {
       Check.fails(what + " " + slot, house, IndexOutOfBoundsException.class,
           () -> call.run(slot, 0, 6));
@@ -96,7 +96,7 @@ public final class MachinesTest {
 
   /** Promises 38 and 39. */
   private static void steps() {
-    Forkhouse house = machine(0, 5, 0, 4, 5, 1, 4, 1, 0, 2, 2, 3, 1, 6, 3, 3, 8, 1, 9, 0);
+    House house = machine(0, 5, 0, 4, 5, 1, 4, 1, 0, 2, 2, 3, 1, 6, 3, 3, 8, 1, 9, 0);
     Houses.states(house, 1, 0);
     Houses.states(house, 2, 1);
     Check.same("steps", house.steps(0, 1, 2), 2);
@@ -137,7 +137,7 @@ public final class MachinesTest {
       line[2 * state] = state;
       line[2 * state + 1] = state + 1;
     }
-    Forkhouse house = machine(line);
+    House house = machine(line);
     Houses.states(house, 1, 0);
     Houses.states(house, 2, 31);
     Check.same("the longest way", house.steps(0, 1, 2), 31);
@@ -152,7 +152,7 @@ public final class MachinesTest {
 
   /** The way that is told goes by the numbers of its states, not by those nearest to its end. */
   private static void waysThatPart() {
-    Forkhouse house = machine(1, 20, 20, 3, 2, 4, 4, 3, 1, 7, 7, 3, 7, 8, 8, 3, 0, 30, 30, 29);
+    House house = machine(1, 20, 20, 3, 2, 4, 4, 3, 1, 7, 7, 3, 7, 8, 8, 3, 0, 30, 30, 29);
     Houses.states(house, 1, 0, 1, 2);
     Houses.states(house, 2, 3);
     Check.same("the first state counts first", way(house), List.of(1, 7, 3));
@@ -161,7 +161,7 @@ public final class MachinesTest {
   }
 
   private static void wrongSteps() {
-    Forkhouse house = machine(0, 1);
+    House house = machine(0, 1);
     Houses.states(house, 1, 0);
     Houses.states(house, 2, 1);
     for (int slot : Houses.NO_SLOTS) {

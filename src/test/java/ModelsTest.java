@@ -8,7 +8,7 @@ public final class ModelsTest {
 
   /** Promise 21. */
   private static void models() {
-    Forkhouse house = Houses.with("a", "a|b", "1", "a&b&c&d&e&f&g&h&i&j", "a^j");
+    House house = Houses.with("a", "a|b", "1", "a&b&c&d&e&f&g&h&i&j", "a^j");
     Check.same("models of a", house.models(0), 512);
     Check.same("models of a|b", house.models(1), 768);
     Check.same("models of all", house.models(2), 1024);
@@ -21,7 +21,7 @@ public final class ModelsTest {
     }
   }
 
-  private static List<Integer> listed(Forkhouse house, int slot) {
+  private static List<Integer> listed(House house, int slot) {
     List<Integer> rows = new ArrayList<>();
     for (int number = 0; number < house.models(slot); number++) {
       rows.add(house.modelAt(slot, number));
@@ -31,7 +31,7 @@ public final class ModelsTest {
 
   /** Promises 22 and 23. */
   private static void modelAtAndRank() {
-    Forkhouse house = new Forkhouse();
+    House house = new House();
     Houses.family(house, 0, 1, 2, 3, 0, 512, 1023);
     house.ofFamily(0, 0);
     Check.same("models by a, b and so on", listed(house, 0), List.of(0, 512, 2, 1, 3, 1023));
@@ -49,13 +49,13 @@ public final class ModelsTest {
     Check.same("the first of all", house.rank(1, 0), 0);
     Check.same("the last of all", house.rank(1, 1023), 1023);
     Check.same("the middle by j", house.rank(1, 512), 512);
-    Forkhouse other = Houses.with("1");
+    House other = Houses.with("1");
     Check.same("the middle by a", other.rank(0, 1), 512);
     Check.same("the second by a", other.modelAt(0, 1), 512);
     wrongModels(house);
   }
 
-  private static void wrongModels(Forkhouse house) {
+  private static void wrongModels(House house) {
     for (int slot : Houses.NO_SLOTS) {
       Check.fails("modelAt " + slot, house, IndexOutOfBoundsException.class,
           () -> house.modelAt(slot, -1));
@@ -82,7 +82,7 @@ public final class ModelsTest {
 
   /** Promise 24. */
   private static void weigh() {
-    Forkhouse house = Houses.with("a", "j");
+    House house = Houses.with("a", "j");
     Check.same("weigh a", house.weigh(0, 1, 3), 1);
     Check.same("weigh a once more", house.weigh(0, 2, 3), 1);
     Check.same("weigh j", house.weigh(9, 0, 1), 2);
@@ -110,14 +110,14 @@ public final class ModelsTest {
     chance("undo leaves weights alone", house, 1, "49/99");
   }
 
-  private static void chance(String what, Forkhouse house, int slot, String due) {
+  private static void chance(String what, House house, int slot, String due) {
     Check.same(what + ", signs", house.tellChance(slot), due.length());
     Check.same(what, Houses.text(house), due);
   }
 
   /** Promise 25. */
   private static void tellChance() {
-    Forkhouse house = Houses.with("a&b", "a|b", "a&b&c&d&e&f&g&h&i&j", "1", "0", "a^b");
+    House house = Houses.with("a&b", "a|b", "a&b&c&d&e&f&g&h&i&j", "1", "0", "a^b");
     chance("at first, a&b", house, 0, "1/4");
     chance("at first, a|b", house, 1, "3/4");
     chance("at first, one row", house, 2, "1/1024");
@@ -145,7 +145,7 @@ public final class ModelsTest {
   }
 
   private static void greatChances() {
-    Forkhouse house = Houses.with("a&b&c&d&e&f&g&h&i&j", "a|b|c|d|e|f|g|h|i|j", "1");
+    House house = Houses.with("a&b&c&d&e&f&g&h&i&j", "a|b|c|d|e|f|g|h|i|j", "1");
     int[] aboves = {97, 89, 83, 79, 73, 71, 67, 61, 59, 53};
     BigInteger product = BigInteger.ONE;
     for (int variable = 0; variable < 10; variable++) {
@@ -187,7 +187,7 @@ public final class ModelsTest {
 
   /** Promise 26. */
   private static void likeliest() {
-    Forkhouse house = Houses.with("a|b", "j", "1", "0", "a&b|!a&!b&j");
+    House house = Houses.with("a|b", "j", "1", "0", "a&b|!a&!b&j");
     Check.same("at first, the least row", house.likeliest(0), 1);
     Check.same("at first, of j", house.likeliest(1), 512);
     Check.same("at first, of all", house.likeliest(2), 0);
@@ -221,7 +221,7 @@ public final class ModelsTest {
 
   /** Promises 27 and 28. */
   private static void placeOfAndSwap() {
-    Forkhouse house = Houses.with("a&b|c&d|e&f", "a", "a&c");
+    House house = Houses.with("a&b|c&d|e&f", "a", "a&c");
     Check.same("swap 0", house.swap(0), 9);
     Check.same("the order then", Houses.order(house), List.of(1, 0, 2, 3, 4, 5, 6, 7, 8, 9));
     Check.same("swap 0 back", house.swap(0), 9);
@@ -250,11 +250,11 @@ public final class ModelsTest {
 
   /** Promise 29. */
   private static void sift() {
-    Forkhouse empty = new Forkhouse();
+    House empty = new House();
     Check.same("sift of nothing", empty.sift(), 0);
     Check.same("each one came to the first place", Houses.order(empty),
         List.of(9, 8, 7, 6, 5, 4, 3, 2, 1, 0));
-    Forkhouse house = Houses.with("a&b|c&d|e&f");
+    House house = Houses.with("a&b|c&d|e&f");
     house.swap(1);
     house.swap(3);
     house.swap(2);
@@ -273,7 +273,7 @@ public final class ModelsTest {
 
   /** Sifts twice, and looks at the order each time. */
   private static void siftLike(String... formulas) {
-    Forkhouse house = Houses.with(formulas);
+    House house = Houses.with(formulas);
     PlainHouse plain = new PlainHouse();
     for (int slot = 0; slot < formulas.length; slot++) {
       readPlain(plain, slot, formulas[slot]);
@@ -294,7 +294,7 @@ public final class ModelsTest {
 
   /** Promise 30. */
   private static void fewest() {
-    Forkhouse house = Houses.with("a&d|b&e", "b^d^f^h^j", "1", "a^b&c|d", "a&b&c&d&e&f", "j",
+    House house = Houses.with("a&d|b&e", "b^d^f^h^j", "1", "a^b&c|d", "a&b&c&d&e&f", "j",
         "a&b|!a&c&d|a&!c&e");
     long before = house.checksum();
     Check.same("fewest of two pairs", house.fewest(0), 4);

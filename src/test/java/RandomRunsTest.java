@@ -1,13 +1,25 @@
+import java.io.IOException;
 import java.util.ArrayList;
+import java.util.Collections;
+import java.util.LinkedHashSet;
 import java.util.List;
+import java.util.Set;
+import java.util.TreeSet;
 
-/** Long runs of calls, drawn from a fixed row of numbers, on the class and on the plain house. */
+/**
+ * Runs of calls of all kinds, drawn from a fixed row of numbers, on the class and on the plain
+ * house: each run is as many calls on one object as the document speaks for, no more and no less.
+ */
 public final class RandomRunsTest {
+  private static final int CALLS_OF_A_RUN = 512;
+  /** How many calls go ahead of each look at the sum, from run to run. */
+  private static final int[] PAUSES = {1, 5, 40, 1000};
+  /** What is drawn from, each kind of call at least once. */
   private static final String[] CALLS = {
     "type", "erase", "signAt", "read", "read", "read", "read", "table", "table", "value", "make",
     "make", "choose", "fix", "put", "some", "each", "nodes", "allNodes", "hangs", "isSame",
     "isUnder", "isSymmetric", "sort", "models", "modelAt", "rank", "weigh", "weigh", "tellChance",
-    "likeliest", "placeOf", "swap", "swap", "fewest", "primes", "tellPrime", "cover", "tellCover",
+    "likeliest", "placeOf", "swap", "swap", "sift", "fewest", "primes", "tellPrime", "cover", "tellCover",
     "leastCover", "image", "reach", "steps", "stateAt", "add", "add", "add", "join", "join",
     "least", "hitting", "setAt", "familyNodes", "edge", "edge", "edge", "ways", "pairings",
     "ofFamily", "ofFunction", "undo", "isSound", "checksum"
@@ -17,7 +29,11 @@ public final class RandomRunsTest {
   private Forkhouse house;
   private PlainHouse plain;
   private int letters;
+  private int pause;
+  private int sinceSum;
   private final List<String> log = new ArrayList<>();
+  /** The calls and what they threw, or "answers", of all runs. */
+  private final Set<String> seen = new TreeSet<>();
 
   private RandomRunsTest(long seed) {
     state = seed;
@@ -90,15 +106,33 @@ public final class RandomRunsTest {
   }
 
   private void both(String what, Check.Call ours, Check.Call due) {
+    int last = CALLS_OF_A_RUN - 1;
+    if (log.size() < last) {
+      compare(what, ours, due);
+      sinceSum++;
+    }
+    if (log.size() < last && sinceSum >= pause) {
+      compare("checksum", () -> house.checksum(), () -> plain.checksum());
+      sinceSum = 0;
+    }
+  }
+
+  private void compare(String what, Check.Call ours, Check.Call due) {
     log.add(what);
     String got = Check.outcome(ours);
     String want = Check.outcome(due);
     int wrongBefore = Check.wrong();
     Check.same(what, got, want);
-    Check.same("checksum behind " + what, house.checksum(), plain.checksum());
     if (Check.wrong() != wrongBefore && wrongBefore == 0) {
       System.out.println("the run: " + log);
     }
+    String end = want.startsWith("throws.") ? want.substring("throws.".length()) : "answers";
+    seen.add(nameOf(what) + " " + end);
+  }
+
+  private static String nameOf(String what) {
+    int space = what.indexOf(' ');
+    return space < 0 ? what : what.substring(0, space);
   }
 
   private void typeAll(String formula) {
@@ -316,25 +350,68 @@ public final class RandomRunsTest {
     }
   }
 
-  private void run(int calls) {
+  /** First each kind once, then kinds as they are drawn, in an order that is drawn too. */
+  private List<String> deck(boolean isFirst) {
+    List<String> names = new ArrayList<>(List.of(CALLS));
+    if (isFirst) {
+      names = new ArrayList<>(new LinkedHashSet<>(names));
+    } else if (below(6) > 0) {
+      // The plain house takes its time to sift.
+      names.remove("sift");
+    }
+    for (int size = names.size(); size > 1; size--) {
+      Collections.swap(names, size - 1, below(size));
+    }
+    return names;
+  }
+
+  private void run(int newPause) {
     house = new Forkhouse();
     plain = new PlainHouse();
+    pause = newPause;
+    sinceSum = 0;
     log.clear();
     letters = 2 + below(9);
-    while (log.size() < calls) {
-      if (below(60) == 0) {
-        machine(below(8));
+    boolean isFirst = true;
+    while (log.size() < CALLS_OF_A_RUN - 1) {
+      for (String name : deck(isFirst)) {
+        if (!isFirst && below(60) == 0) {
+          machine(below(8));
+        }
+        call(name);
       }
-      call(below(150) == 0 ? "sift" : CALLS[below(CALLS.length)]);
+      isFirst = false;
+    }
+    compare("checksum", () -> house.checksum(), () -> plain.checksum());
+    Check.same("calls of a run", log.size(), CALLS_OF_A_RUN);
+    Set<String> kinds = new TreeSet<>();
+    for (String what : log) {
+      kinds.add(nameOf(what));
+    }
+    Check.same("kinds of calls in a run", kinds.size(), 52);
+  }
+
+  /** Each call has answered, and has thrown each exception that is documented for it. */
+  private void allWasSeen() throws IOException {
+    Document document = new Document();
+    for (String name : new TreeSet<>(List.of(CALLS))) {
+      Check.same("some run has: " + name + " answers", seen.contains(name + " answers"), true);
+      for (String exception : document.exceptionsOf(name)) {
+        String end = name + " " + exception;
+        Check.same("some run has: " + end, seen.contains(end), true);
+      }
     }
   }
 
-  public static void main(String[] args) {
-    int runs = args.length > 0 ? Integer.parseInt(args[0]) : 150;
+  public static void main(String[] args) throws IOException {
+    int runs = args.length > 0 ? Integer.parseInt(args[0]) : 200;
     long seed = args.length > 1 ? Long.parseLong(args[1]) : 1;
     RandomRunsTest test = new RandomRunsTest(seed);
     for (int i = 0; i < runs && Check.wrong() == 0; i++) {
-      test.run(430);
+      test.run(PAUSES[i % PAUSES.length]);
+    }
+    if (runs >= 200) {
+      test.allWasSeen();
     }
     Check.end("RandomRunsTest");
   }

@@ -7,7 +7,7 @@ public final class TextTest {
 
   /** Promise 1. */
   private static void newHouse() {
-    Forkhouse house = new Forkhouse();
+    House house = new House();
     for (int slot = 0; slot < 8; slot++) {
       Check.same("models of slot " + slot + " at first", house.models(slot), 0);
     }
@@ -23,12 +23,12 @@ public final class TextTest {
     Check.same("no thing is a way at first", house.edge(9, 3, 3), 0);
     Check.same("all weights are 1/2 at first", house.weigh(9, 1, 2), 0);
     house.table(0, -1L);
-    Check.same("a house has nothing to do with another one", new Forkhouse().models(0), 0);
+    Check.same("a house has nothing to do with another one", new House().models(0), 0);
   }
 
   /** Promise 2. */
   private static void type() {
-    Forkhouse house = new Forkhouse();
+    House house = new House();
     Check.same("type", house.type('x'), 1);
     Check.same("type once more", house.type('y'), 2);
     Check.same("type the lowest code", house.type((char) 32), 3);
@@ -51,7 +51,7 @@ public final class TextTest {
 
   /** Promise 3. */
   private static void erase() {
-    Forkhouse house = new Forkhouse();
+    House house = new House();
     Check.same("erase nothing", house.erase(), 0);
     Houses.type(house, "a&b");
     Check.same("erase", house.erase(), 3);
@@ -64,7 +64,7 @@ public final class TextTest {
 
   /** Promise 4. */
   private static void signAt() {
-    Forkhouse house = new Forkhouse();
+    House house = new House();
     Check.fails("signAt of no text", house, IndexOutOfBoundsException.class,
         () -> house.signAt(0));
     Houses.type(house, "q~ ");
@@ -79,7 +79,7 @@ public final class TextTest {
 
   /** Promise 5. */
   private static void read() {
-    Forkhouse house = new Forkhouse();
+    House house = new House();
     Check.same("read a", Houses.read(house, 0, "a"), 1);
     Check.same("the text is taken away", house.erase(), 0);
     Check.same("read a&b", Houses.read(house, 1, "a&b"), 2);
@@ -96,7 +96,7 @@ public final class TextTest {
   }
 
   private static void readByRank() {
-    Forkhouse house = new Forkhouse();
+    House house = new House();
     Houses.read(house, 0, "a|b^c&d");
     Houses.isTrueWhere("a|b^c&d", house, 0, row ->
         Houses.bit(row, 'a') | (Houses.bit(row, 'b') ^ (Houses.bit(row, 'c') & Houses.bit(row, 'd'))));
@@ -121,7 +121,7 @@ public final class TextTest {
   }
 
   private static void readFaults() {
-    Forkhouse house = Houses.with("c");
+    House house = Houses.with("c");
     house.undo();
     Houses.fault(house, "", 0);
     Houses.fault(house, "a&", 2);
@@ -170,7 +170,7 @@ public final class TextTest {
   }
 
   private static void readWhatWasTold() {
-    Forkhouse house = Houses.with("d|!d");
+    House house = Houses.with("d|!d");
     Check.same("tell a cube", house.tellPrime(0, 0), 1);
     Check.same("read it", house.read(1), 0);
     Check.same("it is the same", house.isSame(0, 1), true);
