@@ -12,24 +12,29 @@ import java.util.TreeSet;
  */
 public final class RandomRunsTest {
   private static final int CALLS_OF_A_RUN = 512;
+  /** So many that each kind of call is the last one of several runs. */
+  private static final int ENOUGH_RUNS = 208;
   /** How many calls go ahead of each look at the sum, from run to run. */
-  private static final int[] PAUSES = {1, 5, 40, 1000};
+  private static final int[] PAUSES = {1, 5, 40, 80};
   /** What is drawn from, each kind of call at least once. */
   private static final String[] CALLS = {
     "type", "erase", "signAt", "read", "read", "read", "read", "table", "table", "value", "make",
     "make", "choose", "fix", "put", "some", "each", "nodes", "allNodes", "hangs", "isSame",
     "isUnder", "isSymmetric", "sort", "models", "modelAt", "rank", "weigh", "weigh", "tellChance",
-    "likeliest", "placeOf", "swap", "swap", "sift", "fewest", "primes", "tellPrime", "cover", "tellCover",
-    "leastCover", "image", "reach", "steps", "stateAt", "add", "add", "add", "join", "join",
-    "least", "hitting", "setAt", "familyNodes", "edge", "edge", "edge", "ways", "pairings",
+    "likeliest", "placeOf", "swap", "swap", "sift", "fewest", "primes", "tellPrime", "cover",
+    "tellCover", "leastCover", "image", "reach", "steps", "stateAt", "add", "add", "add", "join",
+    "join", "least", "hitting", "setAt", "familyNodes", "edge", "edge", "edge", "ways", "pairings",
     "ofFamily", "ofFunction", "undo", "isSound", "checksum"
   };
+  private static final List<String> KINDS = List.copyOf(new TreeSet<>(List.of(CALLS)));
 
   private long state;
   private Forkhouse house;
   private PlainHouse plain;
   private int letters;
   private int pause;
+  /** The kind of call that alone is let through at the end of a run, or "". */
+  private String only;
   private int sinceSum;
   private final List<String> log = new ArrayList<>();
   /** The calls and what they threw, or "answers", of all runs. */
@@ -106,12 +111,12 @@ public final class RandomRunsTest {
   }
 
   private void both(String what, Check.Call ours, Check.Call due) {
-    int last = CALLS_OF_A_RUN - 1;
-    if (log.size() < last) {
+    int end = only.isEmpty() ? CALLS_OF_A_RUN - 1 : CALLS_OF_A_RUN;
+    if (log.size() < end && (only.isEmpty() || only.equals(nameOf(what)))) {
       compare(what, ours, due);
       sinceSum++;
     }
-    if (log.size() < last && sinceSum >= pause) {
+    if (log.size() < end && sinceSum >= pause) {
       compare("checksum", () -> house.checksum(), () -> plain.checksum());
       sinceSum = 0;
     }
@@ -156,7 +161,10 @@ public final class RandomRunsTest {
     switch (name) {
       case "type": {
         char sign = (char) (below(4) == 0 ? number(300) : 32 + below(95));
-        both("type " + (int) sign, () -> house.type(sign), () -> plain.type(sign));
+        // At times until the text is full.
+        for (int times = below(20) == 0 ? 61 : 1; times > 0; times--) {
+          both("type " + (int) sign, () -> house.type(sign), () -> plain.type(sign));
+        }
         break;
       }
       case "erase": both("erase", () -> house.erase(), () -> plain.erase()); break;
@@ -365,10 +373,11 @@ public final class RandomRunsTest {
     return names;
   }
 
-  private void run(int newPause) {
+  private void run(int newPause, String lastKind) {
     house = new Forkhouse();
     plain = new PlainHouse();
     pause = newPause;
+    only = "";
     sinceSum = 0;
     log.clear();
     letters = 2 + below(9);
@@ -382,19 +391,22 @@ public final class RandomRunsTest {
       }
       isFirst = false;
     }
-    compare("checksum", () -> house.checksum(), () -> plain.checksum());
+    only = lastKind;
+    while (log.size() < CALLS_OF_A_RUN) {
+      call(lastKind);
+    }
     Check.same("calls of a run", log.size(), CALLS_OF_A_RUN);
     Set<String> kinds = new TreeSet<>();
     for (String what : log) {
       kinds.add(nameOf(what));
     }
-    Check.same("kinds of calls in a run", kinds.size(), 52);
+    Check.same("kinds of calls in a run", kinds, new TreeSet<>(KINDS));
   }
 
   /** Each call has answered, and has thrown each exception that is documented for it. */
   private void allWasSeen() throws IOException {
     Document document = new Document();
-    for (String name : new TreeSet<>(List.of(CALLS))) {
+    for (String name : KINDS) {
       Check.same("some run has: " + name + " answers", seen.contains(name + " answers"), true);
       for (String exception : document.exceptionsOf(name)) {
         String end = name + " " + exception;
@@ -404,13 +416,14 @@ public final class RandomRunsTest {
   }
 
   public static void main(String[] args) throws IOException {
-    int runs = args.length > 0 ? Integer.parseInt(args[0]) : 200;
+    int runs = args.length > 0 ? Integer.parseInt(args[0]) : ENOUGH_RUNS;
     long seed = args.length > 1 ? Long.parseLong(args[1]) : 1;
     RandomRunsTest test = new RandomRunsTest(seed);
     for (int i = 0; i < runs && Check.wrong() == 0; i++) {
-      test.run(PAUSES[i % PAUSES.length]);
+      String lastKind = i % 2 == 0 ? "checksum" : KINDS.get(i / 2 % KINDS.size());
+      test.run(PAUSES[i % PAUSES.length], lastKind);
     }
-    if (runs >= 200) {
+    if (runs >= ENOUGH_RUNS) {
       test.allWasSeen();
     }
     Check.end("RandomRunsTest");
